@@ -15,6 +15,7 @@ public final class BuildsTest extends Ways {
         buildOf();
         beganAnew();
         beganAnewWithAllThatIsTold();
+        beganAnewTwice();
         diary();
         diaryRefuses();
         Check.end("BuildsTest");
@@ -279,6 +280,40 @@ public final class BuildsTest extends Ways {
             Check.is(x.buildOf(build, 2), () -> x.beganAnew(build));
         }
         Check.is(2, () -> x.buildOf(2, 3));
+    }
+
+    /** Each planning starts from nothing: what an earlier one knew at its end is not known at the next one's start. */
+    private static void beganAnewTwice() {
+        Rigdiary x = new Rigdiary();
+        x.machine(0, 0);
+        x.build(0, 0, 4);
+        x.pass(6);
+        Check.is(0, () -> x.beganAnew(0));
+        x.meeting(set(9), 6, 1, 0);
+        x.leave(0, 0, 3);
+        x.lend(0, 5, 8, 40);
+        x.leave(5, 1, 1);
+        x.breakDown(0, 20);
+        x.build(0, 0, 4);
+        Check.is(0, () -> x.beganAnew(0));
+        Check.is(0, () -> x.beganAnew(0));
+        x.lend(0, 6, 27, 30);
+        x.pass(24);
+        Check.is(26, () -> x.buildOf(1, 2));
+        Check.is(26, () -> x.beganAnew(1));
+        Check.is(26, () -> x.beganAnew(1));
+        x.lend(0, 7, 30, 45);
+        x.leave(7, 4, 5);
+        x.build(0, 0, 3);
+        x.pass(16);
+        Check.is(NONE, () -> x.beganAnew(2));
+        x.leave(0, 6, 6);
+        Check.is(26, () -> x.beganAnew(1));
+        x.pass(10);
+        Check.is(NONE, () -> x.beganAnew(2));
+        x.pass(1);
+        Check.is(56, () -> x.beganAnew(2));
+        Check.is(56, () -> x.buildOf(2, 2));
     }
 
     private static void diary() {

@@ -20,6 +20,7 @@ public final class MeetingsTest extends Ways {
         swapsWhereOneCannotBe();
         swapsOfNeighbours();
         swapsThatHoldNoMore();
+        swapsThatOtherSwapsMoved();
         swapsThatTheCallsChanged();
         isFree();
         Check.end("MeetingsTest");
@@ -137,6 +138,9 @@ public final class MeetingsTest extends Ways {
         Check.is("........", () -> Picture.day(x, 0, 0));
         Check.is(true, () -> x.isFree(0, 4));
         Check.is(true, () -> x.move(0, 0));
+        x.meeting(set(4), 3, 1, NONE);
+        Check.is(true, () -> x.move(1, 399));
+        Check.is(399, () -> x.meetingOf(1, 1));
         x.build(0, 9, 1);
         x.build(0, 0, 3);
         Check.is(true, () -> x.move(0, 8));
@@ -440,6 +444,28 @@ public final class MeetingsTest extends Ways {
         x.cancel(0);
         Check.is(Rigdiary.REFUSED, () -> x.agree(1, 7));
         Check.is(10, () -> x.meetingOf(1, 1));
+    }
+
+    /** A swap that is DONE moves both of its meetings, also to the slot that they have. */
+    private static void swapsThatOtherSwapsMoved() {
+        Rigdiary x = new Rigdiary();
+        x.meeting(set(0), 8, 1, NONE);
+        x.meeting(set(1), 8, 1, NONE);
+        x.meeting(set(2), 16, 1, NONE);
+        x.swap(0, 2);
+        x.swap(2, 1);
+        x.swap(1, 0);
+        x.swap(0, 1);
+        agreedTo(x, Rigdiary.DONE, 2, 0, 1);
+        Check.is(8, () -> x.meetingOf(0, 1));
+        Check.is(8, () -> x.meetingOf(1, 1));
+        Check.is(Rigdiary.REFUSED, () -> x.agree(2, 0));
+        Check.is(Rigdiary.REFUSED, () -> x.agree(2, 1));
+        Check.is(Rigdiary.REFUSED, () -> x.agree(0, 3));
+        agreed(x, Rigdiary.DONE, 0, 1, 1, 0);
+        agreed(x, Rigdiary.DONE, 0, 2, 2, 0);
+        Check.is(16, () -> x.meetingOf(0, 1));
+        Check.is(8, () -> x.meetingOf(2, 1));
     }
 
     private static void swapsThatTheCallsChanged() {

@@ -126,7 +126,11 @@ public final class PeopleMachinesTest extends Ways {
         x.pass(1);
         Check.does(() -> x.leave(1, 1, 1));
         x.meeting(set(5), 40, 1, Rigdiary.NONE);
+        Check.does(() -> x.leave(5, 3, 4));
+        Check.does(() -> x.leave(5, 6, 49));
         Check.refuses(x, Check.STATE, () -> x.leave(5, 5, 5));
+        Check.refuses(x, Check.STATE, () -> x.leave(5, 4, 5));
+        Check.refuses(x, Check.STATE, () -> x.leave(5, 5, 6));
         x.cancel(1);
         Check.does(() -> x.leave(5, 5, 5));
     }
@@ -142,6 +146,10 @@ public final class PeopleMachinesTest extends Ways {
         Check.is(0, () -> x.has(0, 10));
         Check.is(1, () -> x.has(1, 5));
         x.lend(0, 6, 4, 4);
+        x.lend(1, 8, 399, 399);
+        Check.is(8, () -> x.has(1, 399));
+        Check.is(1, () -> x.has(1, 398));
+        Check.is(0, () -> x.has(0, 399));
         x.lend(0, 0, 5, 12);
         Check.is(5, () -> x.has(0, 3));
         Check.is(6, () -> x.has(0, 4));
