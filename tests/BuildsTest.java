@@ -314,6 +314,14 @@ public final class BuildsTest extends Ways {
         x.pass(1);
         Check.is(56, () -> x.beganAnew(2));
         Check.is(56, () -> x.buildOf(2, 2));
+        Rigdiary y = new Rigdiary();
+        y.machine(0, 0);
+        y.leave(3, 0, 0);
+        y.build(0, 0, 6);
+        y.pass(2);
+        y.lend(0, 3, 3, 5);
+        Check.is(0, () -> y.beganAnew(0));
+        Check.is(0, () -> y.beganAnew(0));
     }
 
     private static void diary() {
