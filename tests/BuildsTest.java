@@ -1,7 +1,5 @@
 /** Promises 11 to 14, 17, 18 and 21: build, urge, pass, slot, buildOf, beganAnew, diary. */
 public final class BuildsTest extends Ways {
-    private static final int NONE = Rigdiary.NONE;
-
     public static void main(String[] args) {
         build();
         buildRefuses();
@@ -28,18 +26,18 @@ public final class BuildsTest extends Ways {
             Check.is(number, () -> x.build(number % 16, number % 10, number % 6 + 1));
         }
         Check.is(Rigdiary.QUEUED, () -> x.buildOf(39, 0));
-        Check.refuses(x, Check.STATE, () -> x.build(0, 0, 1));
-        Check.refuses(x, Check.ARGUMENT, () -> x.build(0, 0, 0));
+        Check.refuses(Check.STATE, () -> x.build(0, 0, 1));
+        Check.refuses(Check.ARGUMENT, () -> x.build(0, 0, 0));
     }
 
     private static void buildRefuses() {
         Rigdiary x = new Rigdiary();
-        Check.refuses(x, Check.ARGUMENT, () -> x.build(-1, 0, 1));
-        Check.refuses(x, Check.ARGUMENT, () -> x.build(16, 0, 1));
-        Check.refuses(x, Check.ARGUMENT, () -> x.build(0, -1, 1));
-        Check.refuses(x, Check.ARGUMENT, () -> x.build(0, 10, 1));
-        Check.refuses(x, Check.ARGUMENT, () -> x.build(0, 0, 0));
-        Check.refuses(x, Check.ARGUMENT, () -> x.build(0, 0, 7));
+        Check.refuses(Check.ARGUMENT, () -> x.build(-1, 0, 1));
+        Check.refuses(Check.ARGUMENT, () -> x.build(16, 0, 1));
+        Check.refuses(Check.ARGUMENT, () -> x.build(0, -1, 1));
+        Check.refuses(Check.ARGUMENT, () -> x.build(0, 10, 1));
+        Check.refuses(Check.ARGUMENT, () -> x.build(0, 0, 0));
+        Check.refuses(Check.ARGUMENT, () -> x.build(0, 0, 7));
         Check.is(0, () -> x.build(15, 9, 6));
     }
 
@@ -88,21 +86,21 @@ public final class BuildsTest extends Ways {
 
     private static void urgeRefuses() {
         Rigdiary x = new Rigdiary();
-        Check.refuses(x, Check.INDEX, () -> x.urge(0, 0));
+        Check.refuses(Check.INDEX, () -> x.urge(0, 0));
         x.machine(0, 0);
         x.build(0, 3, 2);
-        Check.refuses(x, Check.INDEX, () -> x.urge(1, 10));
-        Check.refuses(x, Check.INDEX, () -> x.urge(-1, 0));
-        Check.refuses(x, Check.ARGUMENT, () -> x.urge(0, -1));
-        Check.refuses(x, Check.ARGUMENT, () -> x.urge(0, 10));
+        Check.refuses(Check.INDEX, () -> x.urge(1, 10));
+        Check.refuses(Check.INDEX, () -> x.urge(-1, 0));
+        Check.refuses(Check.ARGUMENT, () -> x.urge(0, -1));
+        Check.refuses(Check.ARGUMENT, () -> x.urge(0, 10));
         x.pass(1);
-        Check.refuses(x, Check.STATE, () -> x.urge(0, 5));
-        Check.refuses(x, Check.ARGUMENT, () -> x.urge(0, 10));
+        Check.refuses(Check.STATE, () -> x.urge(0, 5));
+        Check.refuses(Check.ARGUMENT, () -> x.urge(0, 10));
         x.breakDown(0, 1);
         Check.is(3, () -> x.urge(0, 5));
         x.pass(3);
         Check.is(Rigdiary.BUILT, () -> x.buildOf(0, 0));
-        Check.refuses(x, Check.STATE, () -> x.urge(0, 5));
+        Check.refuses(Check.STATE, () -> x.urge(0, 5));
     }
 
     private static void pass() {
@@ -129,16 +127,16 @@ public final class BuildsTest extends Ways {
 
     private static void passRefuses() {
         Rigdiary x = new Rigdiary();
-        Check.refuses(x, Check.ARGUMENT, () -> x.pass(0));
-        Check.refuses(x, Check.ARGUMENT, () -> x.pass(-1));
-        Check.refuses(x, Check.ARGUMENT, () -> x.pass(51));
-        Check.refuses(x, Check.ARGUMENT, () -> x.pass(Integer.MAX_VALUE));
+        Check.refuses(Check.ARGUMENT, () -> x.pass(0));
+        Check.refuses(Check.ARGUMENT, () -> x.pass(-1));
+        Check.refuses(Check.ARGUMENT, () -> x.pass(51));
+        Check.refuses(Check.ARGUMENT, () -> x.pass(Integer.MAX_VALUE));
         passTo(x, 390);
-        Check.refuses(x, Check.STATE, () -> x.pass(11));
-        Check.refuses(x, Check.ARGUMENT, () -> x.pass(51));
+        Check.refuses(Check.STATE, () -> x.pass(11));
+        Check.refuses(Check.ARGUMENT, () -> x.pass(51));
         Check.is(400, () -> x.pass(10));
-        Check.refuses(x, Check.STATE, () -> x.pass(1));
-        Check.refuses(x, Check.ARGUMENT, () -> x.pass(0));
+        Check.refuses(Check.STATE, () -> x.pass(1));
+        Check.refuses(Check.ARGUMENT, () -> x.pass(0));
         Check.is(400, () -> x.slot());
     }
 
@@ -195,13 +193,13 @@ public final class BuildsTest extends Ways {
         Check.is(398, () -> x.beganAnew(0));
         Check.is(0, () -> x.breakDown(2, 40));
         Check.is(NONE, () -> x.beganAnew(0));
-        Check.is("B.......", () -> Picture.day(x, 0, 49));
-        Check.is("........", () -> Picture.day(x, 2, 49));
+        Check.is("B.......", () -> day(x, 0, 49));
+        Check.is("........", () -> day(x, 2, 49));
     }
 
     private static void buildOf() {
         Rigdiary x = new Rigdiary();
-        Check.refuses(x, Check.INDEX, () -> x.buildOf(0, 9));
+        Check.refuses(Check.INDEX, () -> x.buildOf(0, 9));
         x.machine(0, 0);
         x.machine(1, 0);
         x.build(1, 0, 2);
@@ -221,15 +219,15 @@ public final class BuildsTest extends Ways {
         Check.is(1, () -> x.buildOf(0, 1));
         Check.is(2, () -> x.buildOf(0, 2));
         Check.is(2, () -> x.buildOf(0, 3));
-        Check.refuses(x, Check.INDEX, () -> x.buildOf(1, 0));
-        Check.refuses(x, Check.INDEX, () -> x.buildOf(-1, 4));
-        Check.refuses(x, Check.ARGUMENT, () -> x.buildOf(0, -1));
-        Check.refuses(x, Check.ARGUMENT, () -> x.buildOf(0, 4));
+        Check.refuses(Check.INDEX, () -> x.buildOf(1, 0));
+        Check.refuses(Check.INDEX, () -> x.buildOf(-1, 4));
+        Check.refuses(Check.ARGUMENT, () -> x.buildOf(0, -1));
+        Check.refuses(Check.ARGUMENT, () -> x.buildOf(0, 4));
     }
 
     private static void beganAnew() {
         Rigdiary x = new Rigdiary();
-        Check.refuses(x, Check.INDEX, () -> x.beganAnew(0));
+        Check.refuses(Check.INDEX, () -> x.beganAnew(0));
         x.machine(0, 0);
         x.build(0, 0, 2);
         Check.is(NONE, () -> x.beganAnew(0));
@@ -239,8 +237,8 @@ public final class BuildsTest extends Ways {
         x.pass(9);
         Check.is(0, () -> x.beganAnew(0));
         Check.is(10, () -> x.slot());
-        Check.refuses(x, Check.INDEX, () -> x.beganAnew(1));
-        Check.refuses(x, Check.INDEX, () -> x.beganAnew(-1));
+        Check.refuses(Check.INDEX, () -> x.beganAnew(1));
+        Check.refuses(Check.INDEX, () -> x.beganAnew(-1));
     }
 
     /** What was told later does not change what began ahead of it. */
@@ -328,15 +326,15 @@ public final class BuildsTest extends Ways {
         Rigdiary x = new Rigdiary();
         x.machine(0, 0);
         x.machine(0, 0);
-        Check.is("........", () -> Picture.day(x, 0, 0));
+        Check.is("........", () -> day(x, 0, 0));
         x.meeting(1, 5, 2, 0);
         x.build(0, 0, 3);
         x.pass(2);
-        Check.is(".MM..BBB", () -> Picture.day(x, 0, 0));
-        Check.is("........", () -> Picture.day(x, 1, 0));
+        Check.is(".MM..BBB", () -> day(x, 0, 0));
+        Check.is("........", () -> day(x, 1, 0));
         x.breakDown(0, 9);
-        Check.is(BROKEN + "MM" + BROKEN + BROKEN + BROKEN + "..", () -> Picture.day(x, 0, 0));
-        Check.is("....." + BROKEN + BROKEN + BROKEN, () -> Picture.day(x, 0, 1));
+        Check.is(BROKEN + "MM" + BROKEN + BROKEN + BROKEN + "..", () -> day(x, 0, 0));
+        Check.is("....." + BROKEN + BROKEN + BROKEN, () -> day(x, 0, 1));
         Check.is((char) 0xD83D, () -> x.diary(0, 0, 0));
         Check.is((char) 0xDD27, () -> x.diary(0, 0, 1));
         Check.is('M', () -> x.diary(0, 0, 2));
@@ -344,32 +342,32 @@ public final class BuildsTest extends Ways {
         Check.is((char) 0, () -> x.diary(0, 0, 12));
         Check.is((char) 0, () -> x.diary(0, 0, Integer.MAX_VALUE));
         x.pass(1);
-        Check.is(BROKEN + "MM" + BROKEN + BROKEN + BROKEN + "..", () -> Picture.day(x, 0, 0));
-        Check.is("...BBB..", () -> Picture.day(x, 1, 0));
+        Check.is(BROKEN + "MM" + BROKEN + BROKEN + BROKEN + "..", () -> day(x, 0, 0));
+        Check.is("...BBB..", () -> day(x, 1, 0));
         x.breakDown(0, 0);
-        Check.is(".MM.....", () -> Picture.day(x, 0, 0));
+        Check.is(".MM.....", () -> day(x, 0, 0));
         x.pass(3);
-        Check.is(".MM.....", () -> Picture.day(x, 0, 0));
+        Check.is(".MM.....", () -> day(x, 0, 0));
         x.pass(1);
-        Check.is("........", () -> Picture.day(x, 0, 0));
+        Check.is("........", () -> day(x, 0, 0));
         x.build(0, 0, 6);
         x.pass(1);
-        Check.is("B.......", () -> Picture.day(x, 0, 0));
-        Check.is("...BBBBB", () -> Picture.day(x, 0, 1));
+        Check.is("B.......", () -> day(x, 0, 0));
+        Check.is("...BBBBB", () -> day(x, 0, 1));
         x.pass(5);
-        Check.is("........", () -> Picture.day(x, 0, 1));
+        Check.is("........", () -> day(x, 0, 1));
     }
 
     private static void diaryRefuses() {
         Rigdiary x = new Rigdiary();
-        Check.refuses(x, Check.INDEX, () -> x.diary(0, 0, 0));
+        Check.refuses(Check.INDEX, () -> x.diary(0, 0, 0));
         x.machine(0, 0);
-        Check.refuses(x, Check.INDEX, () -> x.diary(1, 50, 0));
-        Check.refuses(x, Check.INDEX, () -> x.diary(-1, 0, 0));
-        Check.refuses(x, Check.INDEX, () -> x.diary(0, 0, -1));
-        Check.refuses(x, Check.INDEX, () -> x.diary(0, 50, -1));
-        Check.refuses(x, Check.ARGUMENT, () -> x.diary(0, 50, 0));
-        Check.refuses(x, Check.ARGUMENT, () -> x.diary(0, -1, 0));
+        Check.refuses(Check.INDEX, () -> x.diary(1, 50, 0));
+        Check.refuses(Check.INDEX, () -> x.diary(-1, 0, 0));
+        Check.refuses(Check.INDEX, () -> x.diary(0, 0, -1));
+        Check.refuses(Check.INDEX, () -> x.diary(0, 50, -1));
+        Check.refuses(Check.ARGUMENT, () -> x.diary(0, 50, 0));
+        Check.refuses(Check.ARGUMENT, () -> x.diary(0, -1, 0));
         Check.is('.', () -> x.diary(0, 49, 7));
         Check.is((char) 0, () -> x.diary(0, 49, 8));
     }

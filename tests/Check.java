@@ -1,3 +1,6 @@
+import java.lang.reflect.InvocationTargetException;
+import java.lang.reflect.Method;
+import java.lang.reflect.Modifier;
 import java.util.Objects;
 
 /** What the tests share: they compare answers, count the wrong ones, and end with them. */
@@ -20,15 +23,18 @@ final class Check {
         void run();
     }
 
+    /** What a call answers, or the class of what it throws. */
+    static Object answer(Asks call) {
+        try {
+            return call.ask();
+        } catch (RuntimeException e) {
+            return e.getClass();
+        }
+    }
+
     /** The call answers what is due. */
     static void is(Object due, Asks call) {
-        Object got;
-        try {
-            got = call.ask();
-        } catch (RuntimeException e) {
-            got = e.getClass();
-        }
-        compare(due, got);
+        compare(due, answer(call));
     }
 
     /** The call ends without an exception. */
@@ -39,14 +45,12 @@ final class Check {
         });
     }
 
-    /** The call throws exactly this exception, and nothing that can be asked is another than ahead of it. */
-    static void refuses(Rigdiary diary, Class<? extends RuntimeException> due, Does call) {
-        String ahead = Picture.of(diary);
+    /** The call throws exactly this exception. */
+    static void refuses(Class<? extends RuntimeException> due, Does call) {
         is(due, () -> {
             call.run();
             return "ended";
         });
-        compare(ahead, Picture.of(diary));
     }
 
     static void compare(Object due, Object got) {
@@ -54,6 +58,32 @@ final class Check {
         if (!Objects.equals(due, got)) {
             wrong++;
             System.out.println(place() + ": answered " + got + ", due is " + due);
+        }
+    }
+
+    /** Runs each test of a class: found by what it is, so that none is written and left out. */
+    static void all(Class<?> tests) {
+        int run = 0;
+        for (Method test : tests.getDeclaredMethods()) {
+            if (Modifier.isStatic(test.getModifiers()) && !Modifier.isPublic(test.getModifiers())
+                    && !test.isSynthetic() && test.getParameterCount() == 0 && test.getReturnType() == void.class) {
+                call(test);
+                run++;
+            }
+        }
+        System.out.print(run + " tests of ");
+        end(tests.getName());
+    }
+
+    private static void call(Method test) {
+        try {
+            test.invoke(null);
+        } catch (InvocationTargetException e) {
+            wrong++;
+            System.out.println(test.getName() + " ends with " + e.getCause());
+        } catch (IllegalAccessException e) {
+            wrong++;
+            System.out.println(test.getName() + " cannot be called");
         }
     }
 

@@ -48,7 +48,7 @@ public final class FaceTest extends Ways {
     }
 
     private static void constants() {
-        Check.compare(-1, Rigdiary.NONE);
+        Check.compare(-1, NONE);
         Check.compare("0 1 2", Rigdiary.SET + " " + Rigdiary.CANCELLED + " " + Rigdiary.OVER);
         Check.compare("0 1 2", Rigdiary.OPEN + " " + Rigdiary.DONE + " " + Rigdiary.REFUSED);
         Check.compare("0 1 2", Rigdiary.QUEUED + " " + Rigdiary.RUNS + " " + Rigdiary.BUILT);
@@ -127,7 +127,7 @@ public final class FaceTest extends Ways {
         x.machine(15, 0);
         for (int i = 0; i < 20; i++) {
             x.build(i % 16, i % 10, i % 6 + 1);
-            x.meeting(1, 80 + 8 * i, 1, Rigdiary.NONE);
+            x.meeting(1, 80 + 8 * i, 1, NONE);
             x.move(i, 81 + 8 * i);
             if (i > 0) {
                 x.swap(i, i - 1);

@@ -1,7 +1,5 @@
 /** Promises 6 to 10, 15, 16 and 20: meeting, move, cancel, swap, agree, meetingOf, swapOf, isFree. */
 public final class MeetingsTest extends Ways {
-    private static final int NONE = Rigdiary.NONE;
-
     public static void main(String[] args) {
         meeting();
         meetingNeedsItsPeople();
@@ -32,8 +30,8 @@ public final class MeetingsTest extends Ways {
         Check.is(0, () -> x.meeting(1023, 0, 4, 0));
         Check.is(1, () -> x.meeting(1, 4, 4, NONE));
         Check.is(2, () -> x.meeting(512, 399, 1, 0));
-        Check.is("....MMMM", () -> Picture.day(x, 0, 0));
-        Check.is("M.......", () -> Picture.day(x, 0, 49));
+        Check.is("....MMMM", () -> day(x, 0, 0));
+        Check.is("M.......", () -> day(x, 0, 49));
         x.pass(4);
         Check.is(Rigdiary.OVER, () -> x.meetingOf(0, 0));
         Check.is(3, () -> x.meeting(2, 4, 1, 0));
@@ -47,15 +45,15 @@ public final class MeetingsTest extends Ways {
     private static void meetingNeedsItsPeople() {
         Rigdiary x = new Rigdiary();
         x.meeting(set(0, 1), 10, 3, NONE);
-        Check.refuses(x, Check.STATE, () -> x.meeting(set(1, 2), 9, 2, NONE));
-        Check.refuses(x, Check.STATE, () -> x.meeting(set(0), 12, 1, NONE));
-        Check.refuses(x, Check.STATE, () -> x.meeting(set(0), 9, 4, NONE));
+        Check.refuses(Check.STATE, () -> x.meeting(set(1, 2), 9, 2, NONE));
+        Check.refuses(Check.STATE, () -> x.meeting(set(0), 12, 1, NONE));
+        Check.refuses(Check.STATE, () -> x.meeting(set(0), 9, 4, NONE));
         Check.is(1, () -> x.meeting(set(0), 13, 1, NONE));
         Check.is(2, () -> x.meeting(set(0), 9, 1, NONE));
         Check.is(3, () -> x.meeting(set(2, 3), 10, 3, NONE));
         x.leave(5, 2, 2);
-        Check.refuses(x, Check.STATE, () -> x.meeting(set(4, 5), 16, 1, NONE));
-        Check.refuses(x, Check.STATE, () -> x.meeting(set(5), 20, 4, NONE));
+        Check.refuses(Check.STATE, () -> x.meeting(set(4, 5), 16, 1, NONE));
+        Check.refuses(Check.STATE, () -> x.meeting(set(5), 20, 4, NONE));
         Check.is(4, () -> x.meeting(set(4), 16, 1, NONE));
         Check.is(5, () -> x.meeting(set(5), 24, 1, NONE));
         x.cancel(0);
@@ -67,19 +65,19 @@ public final class MeetingsTest extends Ways {
         x.machine(0, 0);
         x.machine(0, 0);
         x.meeting(set(0), 10, 2, 0);
-        Check.refuses(x, Check.STATE, () -> x.meeting(set(1), 11, 1, 0));
+        Check.refuses(Check.STATE, () -> x.meeting(set(1), 11, 1, 0));
         Check.is(1, () -> x.meeting(set(1), 11, 1, 1));
         Check.is(2, () -> x.meeting(set(2), 11, 1, NONE));
         Check.is(3, () -> x.meeting(set(3), 12, 1, 0));
         x.build(0, 0, 3);
         x.pass(1);
-        Check.refuses(x, Check.STATE, () -> x.meeting(set(4), 2, 1, 0));
-        Check.refuses(x, Check.STATE, () -> x.meeting(set(4), 1, 4, 0));
+        Check.refuses(Check.STATE, () -> x.meeting(set(4), 2, 1, 0));
+        Check.refuses(Check.STATE, () -> x.meeting(set(4), 1, 4, 0));
         Check.is(4, () -> x.meeting(set(4), 3, 1, 0));
         Check.is(5, () -> x.meeting(set(5), 2, 1, 1));
         x.breakDown(1, 5);
-        Check.refuses(x, Check.STATE, () -> x.meeting(set(6), 5, 1, 1));
-        Check.refuses(x, Check.STATE, () -> x.meeting(set(6), 3, 4, 1));
+        Check.refuses(Check.STATE, () -> x.meeting(set(6), 5, 1, 1));
+        Check.refuses(Check.STATE, () -> x.meeting(set(6), 3, 4, 1));
         Check.is(6, () -> x.meeting(set(6), 6, 1, 1));
         x.breakDown(1, 0);
         Check.is(7, () -> x.meeting(set(6), 5, 1, 1));
@@ -89,28 +87,28 @@ public final class MeetingsTest extends Ways {
 
     private static void meetingRefuses() {
         Rigdiary x = new Rigdiary();
-        Check.refuses(x, Check.INDEX, () -> x.meeting(1, 0, 1, 0));
+        Check.refuses(Check.INDEX, () -> x.meeting(1, 0, 1, 0));
         x.machine(0, 0);
-        Check.refuses(x, Check.INDEX, () -> x.meeting(0, 0, 1, 1));
-        Check.refuses(x, Check.INDEX, () -> x.meeting(1, 0, 1, -2));
-        Check.refuses(x, Check.ARGUMENT, () -> x.meeting(0, 0, 1, 0));
-        Check.refuses(x, Check.ARGUMENT, () -> x.meeting(1024, 0, 1, NONE));
-        Check.refuses(x, Check.ARGUMENT, () -> x.meeting(-1, 0, 1, NONE));
-        Check.refuses(x, Check.ARGUMENT, () -> x.meeting(1, -1, 1, NONE));
-        Check.refuses(x, Check.ARGUMENT, () -> x.meeting(1, 400, 1, NONE));
-        Check.refuses(x, Check.ARGUMENT, () -> x.meeting(1, 0, 0, NONE));
-        Check.refuses(x, Check.ARGUMENT, () -> x.meeting(1, 0, 5, NONE));
-        Check.refuses(x, Check.ARGUMENT, () -> x.meeting(1, 7, 2, NONE));
-        Check.refuses(x, Check.ARGUMENT, () -> x.meeting(1, 5, 4, NONE));
-        Check.refuses(x, Check.ARGUMENT, () -> x.meeting(1, 399, 2, NONE));
-        Check.refuses(x, Check.ARGUMENT, () -> x.meeting(1, Integer.MAX_VALUE, Integer.MAX_VALUE, NONE));
+        Check.refuses(Check.INDEX, () -> x.meeting(0, 0, 1, 1));
+        Check.refuses(Check.INDEX, () -> x.meeting(1, 0, 1, -2));
+        Check.refuses(Check.ARGUMENT, () -> x.meeting(0, 0, 1, 0));
+        Check.refuses(Check.ARGUMENT, () -> x.meeting(1024, 0, 1, NONE));
+        Check.refuses(Check.ARGUMENT, () -> x.meeting(-1, 0, 1, NONE));
+        Check.refuses(Check.ARGUMENT, () -> x.meeting(1, -1, 1, NONE));
+        Check.refuses(Check.ARGUMENT, () -> x.meeting(1, 400, 1, NONE));
+        Check.refuses(Check.ARGUMENT, () -> x.meeting(1, 0, 0, NONE));
+        Check.refuses(Check.ARGUMENT, () -> x.meeting(1, 0, 5, NONE));
+        Check.refuses(Check.ARGUMENT, () -> x.meeting(1, 7, 2, NONE));
+        Check.refuses(Check.ARGUMENT, () -> x.meeting(1, 5, 4, NONE));
+        Check.refuses(Check.ARGUMENT, () -> x.meeting(1, 399, 2, NONE));
+        Check.refuses(Check.ARGUMENT, () -> x.meeting(1, Integer.MAX_VALUE, Integer.MAX_VALUE, NONE));
         x.pass(3);
-        Check.refuses(x, Check.ARGUMENT, () -> x.meeting(1, 2, 2, NONE));
+        Check.refuses(Check.ARGUMENT, () -> x.meeting(1, 2, 2, NONE));
         Check.is(0, () -> x.meeting(1, 3, 1, NONE));
-        Check.refuses(x, Check.ARGUMENT, () -> x.meeting(1, 3, 0, NONE));
+        Check.refuses(Check.ARGUMENT, () -> x.meeting(1, 3, 0, NONE));
         passTo(x, 400);
-        Check.refuses(x, Check.ARGUMENT, () -> x.meeting(1, 400, 1, NONE));
-        Check.refuses(x, Check.ARGUMENT, () -> x.meeting(1, 399, 1, NONE));
+        Check.refuses(Check.ARGUMENT, () -> x.meeting(1, 400, 1, NONE));
+        Check.refuses(Check.ARGUMENT, () -> x.meeting(1, 399, 1, NONE));
     }
 
     private static void thirtyMeetings() {
@@ -119,11 +117,11 @@ public final class MeetingsTest extends Ways {
             int number = i;
             Check.is(number, () -> x.meeting(1, 8 * number, 1, NONE));
         }
-        Check.refuses(x, Check.STATE, () -> x.meeting(1, 300, 1, NONE));
+        Check.refuses(Check.STATE, () -> x.meeting(1, 300, 1, NONE));
         x.cancel(29);
-        Check.refuses(x, Check.STATE, () -> x.meeting(1, 300, 1, NONE));
-        Check.refuses(x, Check.ARGUMENT, () -> x.meeting(1, 303, 2, NONE));
-        Check.refuses(x, Check.INDEX, () -> x.meeting(1, 303, 2, 0));
+        Check.refuses(Check.STATE, () -> x.meeting(1, 300, 1, NONE));
+        Check.refuses(Check.ARGUMENT, () -> x.meeting(1, 303, 2, NONE));
+        Check.refuses(Check.INDEX, () -> x.meeting(1, 303, 2, 0));
     }
 
     private static void move() {
@@ -134,8 +132,8 @@ public final class MeetingsTest extends Ways {
         Check.is(4, () -> x.meetingOf(0, 1));
         Check.is(true, () -> x.move(0, 4));
         Check.is(true, () -> x.move(0, 398));
-        Check.is("MM......", () -> Picture.day(x, 0, 49));
-        Check.is("........", () -> Picture.day(x, 0, 0));
+        Check.is("MM......", () -> day(x, 0, 49));
+        Check.is("........", () -> day(x, 0, 0));
         Check.is(true, () -> x.isFree(0, 4));
         Check.is(true, () -> x.move(0, 0));
         x.meeting(set(4), 3, 1, NONE);
@@ -149,7 +147,7 @@ public final class MeetingsTest extends Ways {
         Check.is(true, () -> x.move(0, 1));
         x.pass(2);
         Check.is(NONE, () -> x.buildOf(1, 2));
-        Check.refuses(x, Check.STATE, () -> x.move(0, 8));
+        Check.refuses(Check.STATE, () -> x.move(0, 8));
         x.pass(1);
         Check.is(3, () -> x.buildOf(1, 2));
     }
@@ -184,49 +182,49 @@ public final class MeetingsTest extends Ways {
 
     private static void moveRefuses() {
         Rigdiary x = new Rigdiary();
-        Check.refuses(x, Check.INDEX, () -> x.move(0, 0));
+        Check.refuses(Check.INDEX, () -> x.move(0, 0));
         x.meeting(1, 8, 3, NONE);
         x.meeting(1, 30, 2, NONE);
         x.pass(2);
-        Check.refuses(x, Check.INDEX, () -> x.move(2, 400));
-        Check.refuses(x, Check.INDEX, () -> x.move(-1, 400));
-        Check.refuses(x, Check.ARGUMENT, () -> x.move(0, 1));
-        Check.refuses(x, Check.ARGUMENT, () -> x.move(0, -1));
-        Check.refuses(x, Check.ARGUMENT, () -> x.move(0, 400));
-        Check.refuses(x, Check.ARGUMENT, () -> x.move(0, 14));
-        Check.refuses(x, Check.ARGUMENT, () -> x.move(0, 398));
-        Check.refuses(x, Check.ARGUMENT, () -> x.move(0, Integer.MAX_VALUE));
+        Check.refuses(Check.INDEX, () -> x.move(2, 400));
+        Check.refuses(Check.INDEX, () -> x.move(-1, 400));
+        Check.refuses(Check.ARGUMENT, () -> x.move(0, 1));
+        Check.refuses(Check.ARGUMENT, () -> x.move(0, -1));
+        Check.refuses(Check.ARGUMENT, () -> x.move(0, 400));
+        Check.refuses(Check.ARGUMENT, () -> x.move(0, 14));
+        Check.refuses(Check.ARGUMENT, () -> x.move(0, 398));
+        Check.refuses(Check.ARGUMENT, () -> x.move(0, Integer.MAX_VALUE));
         x.cancel(1);
-        Check.refuses(x, Check.STATE, () -> x.move(1, 40));
-        Check.refuses(x, Check.ARGUMENT, () -> x.move(1, 39));
+        Check.refuses(Check.STATE, () -> x.move(1, 40));
+        Check.refuses(Check.ARGUMENT, () -> x.move(1, 39));
         x.pass(6);
         Check.is(true, () -> x.move(0, 8));
         x.pass(1);
-        Check.refuses(x, Check.STATE, () -> x.move(0, 9));
-        Check.refuses(x, Check.ARGUMENT, () -> x.move(0, 8));
+        Check.refuses(Check.STATE, () -> x.move(0, 9));
+        Check.refuses(Check.ARGUMENT, () -> x.move(0, 8));
         x.pass(2);
-        Check.refuses(x, Check.STATE, () -> x.move(0, 16));
+        Check.refuses(Check.STATE, () -> x.move(0, 16));
     }
 
     private static void cancel() {
         Rigdiary x = new Rigdiary();
-        Check.refuses(x, Check.INDEX, () -> x.cancel(0));
+        Check.refuses(Check.INDEX, () -> x.cancel(0));
         x.machine(0, 0);
         x.meeting(set(0), 1, 2, 0);
         x.meeting(set(1), 3, 2, 0);
-        Check.refuses(x, Check.INDEX, () -> x.cancel(2));
-        Check.refuses(x, Check.INDEX, () -> x.cancel(-1));
+        Check.refuses(Check.INDEX, () -> x.cancel(2));
+        Check.refuses(Check.INDEX, () -> x.cancel(-1));
         x.pass(1);
         Check.does(() -> x.cancel(0));
         Check.is(Rigdiary.CANCELLED, () -> x.meetingOf(0, 0));
-        Check.is("...MM...", () -> Picture.day(x, 0, 0));
-        Check.refuses(x, Check.STATE, () -> x.cancel(0));
+        Check.is("...MM...", () -> day(x, 0, 0));
+        Check.refuses(Check.STATE, () -> x.cancel(0));
         x.pass(3);
-        Check.refuses(x, Check.STATE, () -> x.cancel(1));
+        Check.refuses(Check.STATE, () -> x.cancel(1));
         x.pass(1);
         Check.is(Rigdiary.OVER, () -> x.meetingOf(1, 0));
         Check.is(Rigdiary.CANCELLED, () -> x.meetingOf(0, 0));
-        Check.refuses(x, Check.STATE, () -> x.cancel(1));
+        Check.refuses(Check.STATE, () -> x.cancel(1));
         x.meeting(set(0), 6, 2, 0);
         x.build(0, 0, 3);
         x.pass(1);
@@ -238,7 +236,7 @@ public final class MeetingsTest extends Ways {
 
     private static void meetingOf() {
         Rigdiary x = new Rigdiary();
-        Check.refuses(x, Check.INDEX, () -> x.meetingOf(0, 9));
+        Check.refuses(Check.INDEX, () -> x.meetingOf(0, 9));
         x.machine(0, 0);
         x.machine(0, 0);
         x.meeting(set(0, 9), 5, 3, 1);
@@ -252,10 +250,10 @@ public final class MeetingsTest extends Ways {
         Check.is(2, () -> x.meetingOf(1, 2));
         Check.is(NONE, () -> x.meetingOf(1, 3));
         Check.is(set(4), () -> x.meetingOf(1, 4));
-        Check.refuses(x, Check.INDEX, () -> x.meetingOf(2, 0));
-        Check.refuses(x, Check.INDEX, () -> x.meetingOf(-1, 5));
-        Check.refuses(x, Check.ARGUMENT, () -> x.meetingOf(0, -1));
-        Check.refuses(x, Check.ARGUMENT, () -> x.meetingOf(0, 5));
+        Check.refuses(Check.INDEX, () -> x.meetingOf(2, 0));
+        Check.refuses(Check.INDEX, () -> x.meetingOf(-1, 5));
+        Check.refuses(Check.ARGUMENT, () -> x.meetingOf(0, -1));
+        Check.refuses(Check.ARGUMENT, () -> x.meetingOf(0, 5));
         x.pass(7);
         Check.is(Rigdiary.SET, () -> x.meetingOf(0, 0));
         x.pass(1);
@@ -272,36 +270,36 @@ public final class MeetingsTest extends Ways {
             Check.is(number, () -> x.swap(number % 2, 1 - number % 2));
             Check.is(Rigdiary.OPEN, () -> x.swapOf(number));
         }
-        Check.refuses(x, Check.STATE, () -> x.swap(0, 1));
-        Check.refuses(x, Check.ARGUMENT, () -> x.swap(0, 0));
-        Check.refuses(x, Check.INDEX, () -> x.swap(2, 2));
+        Check.refuses(Check.STATE, () -> x.swap(0, 1));
+        Check.refuses(Check.ARGUMENT, () -> x.swap(0, 0));
+        Check.refuses(Check.INDEX, () -> x.swap(2, 2));
         Check.is(1, () -> x.meetingOf(0, 1));
     }
 
     private static void swapRefuses() {
         Rigdiary x = new Rigdiary();
-        Check.refuses(x, Check.INDEX, () -> x.swap(0, 1));
+        Check.refuses(Check.INDEX, () -> x.swap(0, 1));
         x.meeting(set(0), 1, 2, NONE);
         x.meeting(set(1), 9, 1, NONE);
         x.meeting(set(2), 9, 1, NONE);
         x.cancel(2);
-        Check.refuses(x, Check.INDEX, () -> x.swap(0, 3));
-        Check.refuses(x, Check.INDEX, () -> x.swap(3, 0));
-        Check.refuses(x, Check.INDEX, () -> x.swap(-1, -1));
-        Check.refuses(x, Check.ARGUMENT, () -> x.swap(1, 1));
-        Check.refuses(x, Check.ARGUMENT, () -> x.swap(2, 2));
-        Check.refuses(x, Check.STATE, () -> x.swap(1, 2));
-        Check.refuses(x, Check.STATE, () -> x.swap(2, 1));
-        Check.refuses(x, Check.INDEX, () -> x.swapOf(0));
+        Check.refuses(Check.INDEX, () -> x.swap(0, 3));
+        Check.refuses(Check.INDEX, () -> x.swap(3, 0));
+        Check.refuses(Check.INDEX, () -> x.swap(-1, -1));
+        Check.refuses(Check.ARGUMENT, () -> x.swap(1, 1));
+        Check.refuses(Check.ARGUMENT, () -> x.swap(2, 2));
+        Check.refuses(Check.STATE, () -> x.swap(1, 2));
+        Check.refuses(Check.STATE, () -> x.swap(2, 1));
+        Check.refuses(Check.INDEX, () -> x.swapOf(0));
         x.pass(1);
         Check.is(0, () -> x.swap(0, 1));
         x.pass(1);
-        Check.refuses(x, Check.STATE, () -> x.swap(0, 1));
-        Check.refuses(x, Check.STATE, () -> x.swap(1, 0));
+        Check.refuses(Check.STATE, () -> x.swap(0, 1));
+        Check.refuses(Check.STATE, () -> x.swap(1, 0));
         x.pass(1);
-        Check.refuses(x, Check.STATE, () -> x.swap(1, 0));
-        Check.refuses(x, Check.INDEX, () -> x.swapOf(1));
-        Check.refuses(x, Check.INDEX, () -> x.swapOf(-1));
+        Check.refuses(Check.STATE, () -> x.swap(1, 0));
+        Check.refuses(Check.INDEX, () -> x.swapOf(1));
+        Check.refuses(Check.INDEX, () -> x.swapOf(-1));
         Check.is(Rigdiary.OPEN, () -> x.swapOf(0));
     }
 
@@ -326,28 +324,28 @@ public final class MeetingsTest extends Ways {
         Check.is(1, () -> x.meetingOf(1, 3));
         Check.is(set(0, 1), () -> x.meetingOf(0, 4));
         Check.is(set(1, 2), () -> x.meetingOf(1, 4));
-        Check.is("........", () -> Picture.day(x, 0, 0));
-        Check.is("..MM....", () -> Picture.day(x, 0, 1));
-        Check.is("...MMMM.", () -> Picture.day(x, 1, 0));
-        Check.refuses(x, Check.STATE, () -> x.agree(0, 0));
+        Check.is("........", () -> day(x, 0, 0));
+        Check.is("..MM....", () -> day(x, 0, 1));
+        Check.is("...MMMM.", () -> day(x, 1, 0));
+        Check.refuses(Check.STATE, () -> x.agree(0, 0));
     }
 
     private static void agreeRefuses() {
         Rigdiary x = new Rigdiary();
-        Check.refuses(x, Check.INDEX, () -> x.agree(0, 0));
+        Check.refuses(Check.INDEX, () -> x.agree(0, 0));
         x.meeting(set(0), 1, 2, NONE);
         x.meeting(set(1), 9, 1, NONE);
         x.swap(0, 1);
-        Check.refuses(x, Check.INDEX, () -> x.agree(-1, 0));
-        Check.refuses(x, Check.INDEX, () -> x.agree(10, 0));
-        Check.refuses(x, Check.INDEX, () -> x.agree(0, 1));
-        Check.refuses(x, Check.INDEX, () -> x.agree(0, -1));
-        Check.refuses(x, Check.STATE, () -> x.agree(2, 0));
+        Check.refuses(Check.INDEX, () -> x.agree(-1, 0));
+        Check.refuses(Check.INDEX, () -> x.agree(10, 0));
+        Check.refuses(Check.INDEX, () -> x.agree(0, 1));
+        Check.refuses(Check.INDEX, () -> x.agree(0, -1));
+        Check.refuses(Check.STATE, () -> x.agree(2, 0));
         x.cancel(1);
-        Check.refuses(x, Check.STATE, () -> x.agree(9, 0));
+        Check.refuses(Check.STATE, () -> x.agree(9, 0));
         Check.is(Rigdiary.OPEN, () -> x.swapOf(0));
         Check.is(Rigdiary.REFUSED, () -> x.agree(0, 0));
-        Check.refuses(x, Check.STATE, () -> x.agree(1, 0));
+        Check.refuses(Check.STATE, () -> x.agree(1, 0));
         Check.is(Rigdiary.REFUSED, () -> x.swapOf(0));
     }
 
@@ -484,7 +482,7 @@ public final class MeetingsTest extends Ways {
         agreed(x, Rigdiary.REFUSED, 1, 2, 1, 2);
         x.move(2, 6);
         agreed(x, Rigdiary.DONE, 1, 2, 1, 2);
-        Check.is(".MBBBB..", () -> Picture.day(x, 0, 0));
+        Check.is(".MBBBB..", () -> day(x, 0, 0));
     }
 
     private static void isFree() {
@@ -507,10 +505,10 @@ public final class MeetingsTest extends Ways {
         Check.is(false, () -> x.isFree(9, 399));
         x.cancel(1);
         Check.is(true, () -> x.isFree(9, 399));
-        Check.refuses(x, Check.INDEX, () -> x.isFree(-1, 0));
-        Check.refuses(x, Check.INDEX, () -> x.isFree(10, 400));
-        Check.refuses(x, Check.ARGUMENT, () -> x.isFree(0, -1));
-        Check.refuses(x, Check.ARGUMENT, () -> x.isFree(0, 400));
+        Check.refuses(Check.INDEX, () -> x.isFree(-1, 0));
+        Check.refuses(Check.INDEX, () -> x.isFree(10, 400));
+        Check.refuses(Check.ARGUMENT, () -> x.isFree(0, -1));
+        Check.refuses(Check.ARGUMENT, () -> x.isFree(0, 400));
     }
 
     /** A new swap to which the two agree, one behind the other, ends like this. */

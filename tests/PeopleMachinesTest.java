@@ -19,11 +19,11 @@ public final class PeopleMachinesTest extends Ways {
     private static void aNewObject() {
         Rigdiary x = new Rigdiary();
         Check.is(0, () -> x.slot());
-        Check.refuses(x, Check.INDEX, () -> x.has(0, 0));
-        Check.refuses(x, Check.INDEX, () -> x.meetingOf(0, 0));
-        Check.refuses(x, Check.INDEX, () -> x.swapOf(0));
-        Check.refuses(x, Check.INDEX, () -> x.buildOf(0, 0));
-        Check.refuses(x, Check.INDEX, () -> x.beganAnew(0));
+        Check.refuses(Check.INDEX, () -> x.has(0, 0));
+        Check.refuses(Check.INDEX, () -> x.meetingOf(0, 0));
+        Check.refuses(Check.INDEX, () -> x.swapOf(0));
+        Check.refuses(Check.INDEX, () -> x.buildOf(0, 0));
+        Check.refuses(Check.INDEX, () -> x.beganAnew(0));
         for (int p = 0; p < 10; p++) {
             int person = p;
             Check.is(true, () -> x.isFree(person, 0));
@@ -51,17 +51,17 @@ public final class PeopleMachinesTest extends Ways {
 
     private static void machineRefuses() {
         Rigdiary x = new Rigdiary();
-        Check.refuses(x, Check.INDEX, () -> x.machine(0, -1));
-        Check.refuses(x, Check.INDEX, () -> x.machine(0, 10));
-        Check.refuses(x, Check.INDEX, () -> x.machine(16, 10));
-        Check.refuses(x, Check.ARGUMENT, () -> x.machine(-1, 0));
-        Check.refuses(x, Check.ARGUMENT, () -> x.machine(16, 9));
+        Check.refuses(Check.INDEX, () -> x.machine(0, -1));
+        Check.refuses(Check.INDEX, () -> x.machine(0, 10));
+        Check.refuses(Check.INDEX, () -> x.machine(16, 10));
+        Check.refuses(Check.ARGUMENT, () -> x.machine(-1, 0));
+        Check.refuses(Check.ARGUMENT, () -> x.machine(16, 9));
         for (int i = 0; i < 6; i++) {
             x.machine(i, i);
         }
-        Check.refuses(x, Check.STATE, () -> x.machine(0, 0));
-        Check.refuses(x, Check.ARGUMENT, () -> x.machine(16, 0));
-        Check.refuses(x, Check.INDEX, () -> x.machine(16, 10));
+        Check.refuses(Check.STATE, () -> x.machine(0, 0));
+        Check.refuses(Check.ARGUMENT, () -> x.machine(16, 0));
+        Check.refuses(Check.INDEX, () -> x.machine(16, 10));
     }
 
     private static void leaveHinders() {
@@ -80,7 +80,7 @@ public final class PeopleMachinesTest extends Ways {
         x.pass(5);
         Check.is(6, () -> x.buildOf(2, 2));
         x.pass(17);
-        Check.is(Rigdiary.NONE, () -> x.buildOf(1, 2));
+        Check.is(NONE, () -> x.buildOf(1, 2));
         x.pass(1);
         Check.is(24, () -> x.buildOf(1, 2));
         x.leave(3, 3, 3);
@@ -91,46 +91,46 @@ public final class PeopleMachinesTest extends Ways {
 
     private static void leaveRefuses() {
         Rigdiary x = new Rigdiary();
-        Check.refuses(x, Check.INDEX, () -> x.leave(-1, 0, 0));
-        Check.refuses(x, Check.INDEX, () -> x.leave(10, -1, 0));
-        Check.refuses(x, Check.ARGUMENT, () -> x.leave(0, -1, 0));
-        Check.refuses(x, Check.ARGUMENT, () -> x.leave(0, 50, 50));
-        Check.refuses(x, Check.ARGUMENT, () -> x.leave(0, 0, 50));
-        Check.refuses(x, Check.ARGUMENT, () -> x.leave(0, 3, 2));
-        Check.refuses(x, Check.ARGUMENT, () -> x.leave(0, Integer.MIN_VALUE, Integer.MAX_VALUE));
+        Check.refuses(Check.INDEX, () -> x.leave(-1, 0, 0));
+        Check.refuses(Check.INDEX, () -> x.leave(10, -1, 0));
+        Check.refuses(Check.ARGUMENT, () -> x.leave(0, -1, 0));
+        Check.refuses(Check.ARGUMENT, () -> x.leave(0, 50, 50));
+        Check.refuses(Check.ARGUMENT, () -> x.leave(0, 0, 50));
+        Check.refuses(Check.ARGUMENT, () -> x.leave(0, 3, 2));
+        Check.refuses(Check.ARGUMENT, () -> x.leave(0, Integer.MIN_VALUE, Integer.MAX_VALUE));
         x.pass(15);
-        Check.refuses(x, Check.ARGUMENT, () -> x.leave(0, 0, 1));
+        Check.refuses(Check.ARGUMENT, () -> x.leave(0, 0, 1));
         Check.does(() -> x.leave(0, 1, 1));
         x.pass(1);
-        Check.refuses(x, Check.ARGUMENT, () -> x.leave(0, 1, 1));
+        Check.refuses(Check.ARGUMENT, () -> x.leave(0, 1, 1));
         Check.does(() -> x.leave(0, 49, 49));
         Check.is(false, () -> x.isFree(0, 392));
         Check.is(false, () -> x.isFree(0, 399));
         Check.is(true, () -> x.isFree(0, 391));
         passTo(x, 400);
-        Check.refuses(x, Check.ARGUMENT, () -> x.leave(0, 49, 49));
-        Check.refuses(x, Check.ARGUMENT, () -> x.leave(0, 50, 50));
+        Check.refuses(Check.ARGUMENT, () -> x.leave(0, 49, 49));
+        Check.refuses(Check.ARGUMENT, () -> x.leave(0, 50, 50));
     }
 
     private static void leaveAndMeetings() {
         Rigdiary x = new Rigdiary();
-        x.meeting(set(1, 2), 12, 2, Rigdiary.NONE);
-        Check.refuses(x, Check.STATE, () -> x.leave(1, 1, 1));
-        Check.refuses(x, Check.STATE, () -> x.leave(2, 0, 4));
-        Check.refuses(x, Check.ARGUMENT, () -> x.leave(2, 1, 50));
+        x.meeting(set(1, 2), 12, 2, NONE);
+        Check.refuses(Check.STATE, () -> x.leave(1, 1, 1));
+        Check.refuses(Check.STATE, () -> x.leave(2, 0, 4));
+        Check.refuses(Check.ARGUMENT, () -> x.leave(2, 1, 50));
         Check.does(() -> x.leave(1, 0, 0));
         Check.does(() -> x.leave(1, 2, 3));
         Check.does(() -> x.leave(3, 1, 1));
         x.pass(13);
-        Check.refuses(x, Check.STATE, () -> x.leave(1, 1, 1));
+        Check.refuses(Check.STATE, () -> x.leave(1, 1, 1));
         x.pass(1);
         Check.does(() -> x.leave(1, 1, 1));
-        x.meeting(set(5), 40, 1, Rigdiary.NONE);
+        x.meeting(set(5), 40, 1, NONE);
         Check.does(() -> x.leave(5, 3, 4));
         Check.does(() -> x.leave(5, 6, 49));
-        Check.refuses(x, Check.STATE, () -> x.leave(5, 5, 5));
-        Check.refuses(x, Check.STATE, () -> x.leave(5, 4, 5));
-        Check.refuses(x, Check.STATE, () -> x.leave(5, 5, 6));
+        Check.refuses(Check.STATE, () -> x.leave(5, 5, 5));
+        Check.refuses(Check.STATE, () -> x.leave(5, 4, 5));
+        Check.refuses(Check.STATE, () -> x.leave(5, 5, 6));
         x.cancel(1);
         Check.does(() -> x.leave(5, 5, 5));
     }
@@ -175,49 +175,49 @@ public final class PeopleMachinesTest extends Ways {
 
     private static void lendRefuses() {
         Rigdiary x = new Rigdiary();
-        Check.refuses(x, Check.INDEX, () -> x.lend(0, 0, 0, 0));
+        Check.refuses(Check.INDEX, () -> x.lend(0, 0, 0, 0));
         x.machine(0, 0);
-        Check.refuses(x, Check.INDEX, () -> x.lend(1, 0, 0, 0));
-        Check.refuses(x, Check.INDEX, () -> x.lend(-1, 0, 0, 0));
-        Check.refuses(x, Check.INDEX, () -> x.lend(0, -1, 0, 0));
-        Check.refuses(x, Check.INDEX, () -> x.lend(0, 10, -1, 0));
-        Check.refuses(x, Check.ARGUMENT, () -> x.lend(0, 1, -1, 0));
-        Check.refuses(x, Check.ARGUMENT, () -> x.lend(0, 1, 400, 400));
-        Check.refuses(x, Check.ARGUMENT, () -> x.lend(0, 1, 0, 400));
-        Check.refuses(x, Check.ARGUMENT, () -> x.lend(0, 1, 5, 4));
+        Check.refuses(Check.INDEX, () -> x.lend(1, 0, 0, 0));
+        Check.refuses(Check.INDEX, () -> x.lend(-1, 0, 0, 0));
+        Check.refuses(Check.INDEX, () -> x.lend(0, -1, 0, 0));
+        Check.refuses(Check.INDEX, () -> x.lend(0, 10, -1, 0));
+        Check.refuses(Check.ARGUMENT, () -> x.lend(0, 1, -1, 0));
+        Check.refuses(Check.ARGUMENT, () -> x.lend(0, 1, 400, 400));
+        Check.refuses(Check.ARGUMENT, () -> x.lend(0, 1, 0, 400));
+        Check.refuses(Check.ARGUMENT, () -> x.lend(0, 1, 5, 4));
         x.pass(5);
-        Check.refuses(x, Check.ARGUMENT, () -> x.lend(0, 1, 4, 9));
+        Check.refuses(Check.ARGUMENT, () -> x.lend(0, 1, 4, 9));
         for (int i = 0; i < 20; i++) {
             Check.does(() -> x.lend(0, 1, 5, 399));
         }
-        Check.refuses(x, Check.STATE, () -> x.lend(0, 2, 5, 5));
-        Check.refuses(x, Check.ARGUMENT, () -> x.lend(0, 2, 4, 5));
-        Check.refuses(x, Check.INDEX, () -> x.lend(1, 2, 4, 5));
+        Check.refuses(Check.STATE, () -> x.lend(0, 2, 5, 5));
+        Check.refuses(Check.ARGUMENT, () -> x.lend(0, 2, 4, 5));
+        Check.refuses(Check.INDEX, () -> x.lend(1, 2, 4, 5));
         Rigdiary y = new Rigdiary();
         y.machine(0, 0);
         passTo(y, 400);
-        Check.refuses(y, Check.ARGUMENT, () -> y.lend(0, 1, 399, 399));
-        Check.refuses(y, Check.ARGUMENT, () -> y.lend(0, 1, 400, 400));
+        Check.refuses(Check.ARGUMENT, () -> y.lend(0, 1, 399, 399));
+        Check.refuses(Check.ARGUMENT, () -> y.lend(0, 1, 400, 400));
     }
 
     private static void breakDown() {
         Rigdiary x = new Rigdiary();
         x.machine(0, 0);
         x.pass(2);
-        Check.is(Rigdiary.NONE, () -> x.breakDown(0, 3));
-        Check.is("..." + BROKEN + BROKEN + BROKEN + "..", () -> Picture.day(x, 0, 0));
+        Check.is(NONE, () -> x.breakDown(0, 3));
+        Check.is("..." + BROKEN + BROKEN + BROKEN + "..", () -> day(x, 0, 0));
         x.build(0, 0, 2);
         x.pass(2);
-        Check.is(Rigdiary.NONE, () -> x.buildOf(0, 1));
-        Check.is(Rigdiary.NONE, () -> x.breakDown(0, 2));
-        Check.is(".." + BROKEN + BROKEN + "....", () -> Picture.day(x, 0, 0));
+        Check.is(NONE, () -> x.buildOf(0, 1));
+        Check.is(NONE, () -> x.breakDown(0, 2));
+        Check.is(".." + BROKEN + BROKEN + "....", () -> day(x, 0, 0));
         x.pass(3);
         Check.is(6, () -> x.buildOf(0, 2));
-        Check.is(Rigdiary.NONE, () -> x.breakDown(0, 0));
-        Check.is("BB......", () -> Picture.day(x, 0, 0));
+        Check.is(NONE, () -> x.breakDown(0, 0));
+        Check.is("BB......", () -> day(x, 0, 0));
         Check.is(0, () -> x.breakDown(0, 40));
         x.breakDown(0, 0);
-        Check.is("........", () -> Picture.day(x, 0, 1));
+        Check.is("........", () -> day(x, 0, 1));
         x.pass(1);
         Check.is(7, () -> x.buildOf(0, 2));
     }
@@ -229,15 +229,15 @@ public final class PeopleMachinesTest extends Ways {
         x.build(1, 3, 4);
         x.build(0, 2, 4);
         x.pass(2);
-        Check.is(Rigdiary.NONE, () -> x.breakDown(1, 0));
+        Check.is(NONE, () -> x.breakDown(1, 0));
         Check.is(Rigdiary.RUNS, () -> x.buildOf(0, 0));
         Check.is(0, () -> x.breakDown(1, 1));
         Check.is(Rigdiary.QUEUED, () -> x.buildOf(0, 0));
-        Check.is(Rigdiary.NONE, () -> x.buildOf(0, 1));
-        Check.is(Rigdiary.NONE, () -> x.buildOf(0, 2));
+        Check.is(NONE, () -> x.buildOf(0, 1));
+        Check.is(NONE, () -> x.buildOf(0, 2));
         Check.is(1, () -> x.buildOf(0, 3));
-        Check.is(Rigdiary.NONE, () -> x.beganAnew(0));
-        Check.is(Rigdiary.NONE, () -> x.breakDown(1, 1));
+        Check.is(NONE, () -> x.beganAnew(0));
+        Check.is(NONE, () -> x.breakDown(1, 1));
         Check.is(Rigdiary.RUNS, () -> x.buildOf(1, 0));
         Check.is(3, () -> x.urge(0, 4));
         x.pass(2);
@@ -247,12 +247,12 @@ public final class PeopleMachinesTest extends Ways {
         Check.is(Rigdiary.RUNS, () -> x.buildOf(0, 0));
         x.pass(1);
         Check.is(Rigdiary.BUILT, () -> x.buildOf(0, 0));
-        Check.is(Rigdiary.NONE, () -> x.breakDown(1, 1));
+        Check.is(NONE, () -> x.breakDown(1, 1));
         Check.is(Rigdiary.BUILT, () -> x.buildOf(0, 0));
         Rigdiary y = new Rigdiary();
         y.machine(0, 0);
         y.meeting(1, 3, 2, 0);
-        Check.is(Rigdiary.NONE, () -> y.breakDown(0, 40));
+        Check.is(NONE, () -> y.breakDown(0, 40));
         Check.is(Rigdiary.SET, () -> y.meetingOf(0, 0));
         Check.is(3, () -> y.meetingOf(0, 1));
         Check.is(0, () -> y.meetingOf(0, 3));
@@ -260,14 +260,14 @@ public final class PeopleMachinesTest extends Ways {
 
     private static void breakDownRefuses() {
         Rigdiary x = new Rigdiary();
-        Check.refuses(x, Check.INDEX, () -> x.breakDown(0, 0));
+        Check.refuses(Check.INDEX, () -> x.breakDown(0, 0));
         x.machine(0, 0);
         x.build(0, 0, 6);
         x.pass(1);
-        Check.refuses(x, Check.INDEX, () -> x.breakDown(1, 41));
-        Check.refuses(x, Check.INDEX, () -> x.breakDown(-1, 1));
-        Check.refuses(x, Check.ARGUMENT, () -> x.breakDown(0, -1));
-        Check.refuses(x, Check.ARGUMENT, () -> x.breakDown(0, 41));
+        Check.refuses(Check.INDEX, () -> x.breakDown(1, 41));
+        Check.refuses(Check.INDEX, () -> x.breakDown(-1, 1));
+        Check.refuses(Check.ARGUMENT, () -> x.breakDown(0, -1));
+        Check.refuses(Check.ARGUMENT, () -> x.breakDown(0, 41));
         Check.is(0, () -> x.breakDown(0, 40));
         Rigdiary y = new Rigdiary();
         y.machine(0, 0);
@@ -281,12 +281,12 @@ public final class PeopleMachinesTest extends Ways {
 
     private static void has() {
         Rigdiary x = new Rigdiary();
-        Check.refuses(x, Check.INDEX, () -> x.has(0, 0));
+        Check.refuses(Check.INDEX, () -> x.has(0, 0));
         x.machine(0, 8);
-        Check.refuses(x, Check.INDEX, () -> x.has(-1, 400));
-        Check.refuses(x, Check.INDEX, () -> x.has(1, 0));
-        Check.refuses(x, Check.ARGUMENT, () -> x.has(0, -1));
-        Check.refuses(x, Check.ARGUMENT, () -> x.has(0, 400));
+        Check.refuses(Check.INDEX, () -> x.has(-1, 400));
+        Check.refuses(Check.INDEX, () -> x.has(1, 0));
+        Check.refuses(Check.ARGUMENT, () -> x.has(0, -1));
+        Check.refuses(Check.ARGUMENT, () -> x.has(0, 400));
         x.lend(0, 4, 0, 1);
         x.pass(4);
         Check.is(4, () -> x.has(0, 1));
