@@ -226,6 +226,19 @@ public final class EdgesOfMachinesTest extends Ways {
         Check.is(true, () -> x.isFree(3, 32));
     }
 
+    static void leaveIsNoLoan() {
+        Rigdiary x = CheckEdges.diary(MACHINE);
+        x.machine(0, 5);
+        for (int i = 0; i < 20; i++) {
+            x.leave(i % 10, 0, 0);
+        }
+        Check.is(0, () -> x.has(0, 0));
+        Check.is(5, () -> x.has(1, 0));
+        for (int i = 0; i < 20; i++) {
+            Check.does(() -> x.lend(0, 1, 0, 0));
+        }
+    }
+
     static void nobodyLeavesWithAMeetingThen() {
         CheckEdges.refuses(TWO_DAYS, Check.STATE, x -> x.leave(1, 1, 1));
         CheckEdges.refuses(TWO_DAYS, Check.STATE, x -> x.leave(1, 2, 2));

@@ -192,6 +192,25 @@ public final class EdgesOfMeetingsTest extends Ways {
         }
     }
 
+    static void peopleOfEachOfSeveralMeetingsHinder() {
+        CheckEdges.Story several = x -> {
+            for (int p = 0; p < 9; p++) {
+                x.meeting(set(p), 10, 1, NONE);
+            }
+        };
+        for (int p = 0; p < 10; p++) {
+            int person = p;
+            boolean busy = p < 9;
+            CheckEdges.answers(several, busy ? Check.STATE : 9, x -> x.meeting(set(person), 10, 1, NONE));
+            CheckEdges.answers(several, !busy, x -> x.move(x.meeting(set(person), 11, 1, NONE), 10));
+            CheckEdges.answers(several, !busy, x -> x.isFree(person, 10));
+            CheckEdges.answers(several, busy ? Check.STATE : true, x -> {
+                x.leave(person, 1, 1);
+                return true;
+            });
+        }
+    }
+
     static void aMachineIsPromisedToOneMeetingAtOnce() {
         canBe(ONE, set(2), 0, 10, 2);
         canBe(ONE, set(2), 1, 0, 0);
