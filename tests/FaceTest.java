@@ -42,6 +42,7 @@ public final class FaceTest extends Ways {
         methods();
         otherMembers();
         source();
+        sizes();
         room();
         manyCalls();
         Check.end("FaceTest");
@@ -114,6 +115,25 @@ public final class FaceTest extends Ways {
             longest = Math.max(longest, line.length());
         }
         Check.compare(true, longest <= 120);
+        Check.compare(true, text.chars().allMatch(c -> c < 128));
+    }
+
+    /** Rule 11, and rule 1 for the classes inside: no method of theirs has a name of the face, either. */
+    private static void sizes() {
+        List<Class<?>> all = new ArrayList<>(List.of(Rigdiary.class.getDeclaredClasses()));
+        all.add(Rigdiary.class);
+        Check.compare(true, all.size() <= 12);
+        for (Class<?> one : all) {
+            int fields = 0;
+            for (Field f : one.getDeclaredFields()) {
+                fields += Modifier.isStatic(f.getModifiers()) ? 0 : 1;
+            }
+            Check.compare(true, fields <= 20);
+            for (Method m : one.getDeclaredMethods()) {
+                Check.compare(true, m.getParameterCount() <= 7);
+                Check.compare(false, one != Rigdiary.class && ("\n" + FACE).contains("\n" + m.getName() + "("));
+            }
+        }
     }
 
     /** What one run makes lives in one room: an object is small, and no call makes another one. */
